@@ -3162,10 +3162,11 @@ public final class LoanHouse {
 
         /** Adds the state to a label's; whether that brought something. */
         private boolean join(int label) {
-            boolean brought = !labelCome[label];
+            boolean fresh = !labelCome[label];
+            boolean brought = fresh;
             int base = label * WIDTH;
             for (int i = 0; i < WIDTH; i++) {
-                long both = brought ? state[i] : labelState[base + i] | state[i];
+                long both = fresh ? state[i] : labelState[base + i] | state[i];
                 brought |= both != labelState[base + i];
                 labelState[base + i] = both;
             }
