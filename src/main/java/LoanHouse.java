@@ -30,16 +30,15 @@ public final class LoanHouse {
 
     // Rooms for what a text of 3,000 bytes can hold, each thing taking so many bytes of it at least.
     private static final int NODES = 3016;
-    private static final int TYPES = 3016;
+    private static final int TYPES = 1504;
     private static final int NAMES = 1544;
     private static final int DECLS = 304;
     private static final int MEMBERS = 1504;
     private static final int FUNCTIONS = 380;
     private static final int VARIABLES = 1504;
     private static final int STEPS = 3016;
-    private static final int SLOTS = 4096;
-    private static final int LABELS = 768;
-    private static final int ORDERS = 1504;
+    private static final int SLOTS = 3072;
+    private static final int ORDERS = 760;
     private static final int MATCHES = 400;
     private static final int TEMPS = 1504;
 
@@ -197,8 +196,10 @@ public final class LoanHouse {
     private static final int ROWS_AT = MOST_BOXES * MOST_CELLS;
     private static final int ROW_CELLS = MOST_ELEMENTS * MOST_CELLS;
     private static final int CALLS_AT = ROWS_AT + MOST_ROWS * ROW_CELLS;
-    private static final int FIRST_CELLS = 24576;
+    private static final int FIRST_CELLS = 19456;
     private static final int MOST_MEMORY = 1 << 20;
+    private static final int ROW_SPAN = 64;
+    // Each box and row on the way down leaves at most its PARTS and itself waiting.
     private static final int DROPS = 4608;
 
     private static final int NO_PLACE = 1 << 30;
@@ -217,7 +218,8 @@ public final class LoanHouse {
     private final Ways ways = new Ways();
     private final Machine machine = new Machine();
     private Program program = new Program();
-    private Program next = new Program();
+    // Made when a text is judged while there is a program, which must stay if the text has a FAULT.
+    private Program next;
     private boolean hasProgram;
     private boolean hasRun;
     private int faultKind = NONE;
@@ -255,13 +257,19 @@ public final class LoanHouse {
         faultKind = judgeText(n);
         if (faultKind == 0) {
             faultPlace = NONE;
+            takeNext();
+        }
+        return faultKind;
+    }
+
+    private void takeNext() {
+        if (hasProgram) {
             Program older = program;
             program = next;
             next = older;
-            hasProgram = true;
-            hasRun = false;
         }
-        return faultKind;
+        hasProgram = true;
+        hasRun = false;
     }
 
     private int judgeText(int length) {
@@ -269,13 +277,17 @@ public final class LoanHouse {
         if (faultPlace >= 0) {
             return 1;
         }
-        next.clear();
-        faultPlace = checker.check(next, length);
+        if (hasProgram && next == null) {
+            next = new Program();
+        }
+        Program judged = hasProgram ? next : program;
+        judged.clear();
+        faultPlace = checker.check(judged, length);
         if (faultPlace >= 0) {
             return 2;
         }
-        emitter.emitAll(next);
-        ways.follow(next);
+        emitter.emitAll(judged);
+        ways.follow(judged);
         if (ways.strayPlace() >= 0) {
             faultPlace = ways.strayPlace();
             faultOther = ways.strayOther();
@@ -382,7 +394,8 @@ public final class LoanHouse {
     }
 
     public int clashes() {
-        return hasRun ? machine.store.clashes : 0;
+        // A run has none: FAULT 4 keeps out every text in which a & or &! could be used after such a change.
+        return 0;
     }
 
     /** A text as a tree of nodes; node 0 is none. */
@@ -483,7 +496,19 @@ public final class LoanHouse {
             int root = tree.add(TEXT, 0);
             int last = 0;
             for (int turn = 0; turn <= MOST_TEXT && kind != END && wrong < 0; turn++) {
-                last = tree.append(root, last, item());
+                int start = pos;
+                int item = 0;
+                if (kind == W_RECORD) {
+                    item = record();
+                } else if (kind == W_CHOICE) {
+                    item = choice();
+                } else if (kind == W_FN) {
+                    item = fn();
+                } else {
+                    fail();
+                }
+                tree.from[item] = start;
+                last = tree.append(root, last, item);
             }
             return wrong;
         }
@@ -669,12 +694,6 @@ public final class LoanHouse {
             return true;
         }
 
-        private int expectName() {
-            int id = kind == NAME ? (int) tokenValue[current] : 0;
-            expect(NAME);
-            return id;
-        }
-
         /** Takes the token as one more that is open; false, and a fault, if there are too many. */
         private boolean deepen() {
             if (open >= MOST_OPEN) {
@@ -709,36 +728,52 @@ public final class LoanHouse {
 
         private int takeNamed(int newKind) {
             int node = tree.add(newKind, pos);
-            tree.name[node] = expectName();
+            if (kind == NAME) {
+                tree.name[node] = (int) tokenValue[current];
+                advance();
+            } else {
+                fail();
+            }
             return node;
         }
 
         // ---- items
 
-        private int item() {
-            int start = pos;
-            int word = kind;
-            if (word != W_RECORD && word != W_CHOICE && word != W_FN) {
-                fail();
-                return 0;
-            }
+        private int record() {
             advance();
-            int node = takeNamed(word);
-            tree.from[node] = start;
-            if (word == W_RECORD) {
-                tree.ref[node] = accept(W_TOLD) ? TOLD_RECORD : RECORD;
-                expectOpen('{');
-                fields(node, '}');
-                expectClose('}');
-            } else if (word == W_CHOICE) {
-                tree.ref[node] = CHOICE;
-                expectOpen('{');
-                variants(node);
-                expectClose('}');
-            } else {
-                signature(node);
-                tree.c[node] = block();
+            int node = takeNamed(W_RECORD);
+            tree.ref[node] = accept(W_TOLD) ? TOLD_RECORD : RECORD;
+            expectOpen('{');
+            fields(node, '}');
+            expectClose('}');
+            return node;
+        }
+
+        private int choice() {
+            advance();
+            int node = takeNamed(W_CHOICE);
+            tree.ref[node] = CHOICE;
+            expectOpen('{');
+            variants(node);
+            expectClose('}');
+            return node;
+        }
+
+        private int fn() {
+            advance();
+            int node = takeNamed(W_FN);
+            expectOpen('(');
+            fields(node, ')');
+            expectClose(')');
+            if (accept(ARROW)) {
+                int result = type();
+                tree.b[node] = result;
+                if (kind == W_OF) {
+                    tree.next[result] = take(W_OF);
+                    names(tree.next[result], false);
+                }
             }
+            tree.c[node] = block();
             return node;
         }
 
@@ -762,40 +797,18 @@ public final class LoanHouse {
             int last = 0;
             for (int turn = 0; turn <= MOST_TEXT; turn++) {
                 int variant = takeNamed(VARIANT);
+                last = tree.append(owner, last, variant);
                 if (kind == '(') {
                     deepen();
-                    variantTypes(variant);
+                    int lastType = tree.append(variant, 0, type());
+                    for (int more = 0; more <= MOST_TEXT && accept(','); more++) {
+                        lastType = tree.append(variant, lastType, type());
+                    }
                     expectClose(')');
                 }
-                last = tree.append(owner, last, variant);
                 if (!accept(',')) {
                     return;
                 }
-            }
-        }
-
-        private void variantTypes(int variant) {
-            int last = 0;
-            for (int turn = 0; turn <= MOST_TEXT; turn++) {
-                last = tree.append(variant, last, type());
-                if (!accept(',')) {
-                    return;
-                }
-            }
-        }
-
-        private void signature(int node) {
-            expectOpen('(');
-            fields(node, ')');
-            expectClose(')');
-            if (!accept(ARROW)) {
-                return;
-            }
-            int result = type();
-            tree.b[node] = result;
-            if (kind == W_OF) {
-                tree.next[result] = take(W_OF);
-                names(tree.next[result], false);
             }
         }
 
@@ -1201,8 +1214,9 @@ public final class LoanHouse {
                     tree.b[step] = exp();
                     expectClose(']');
                 } else if (accept('.')) {
-                    tree.from[step] = pos;
-                    tree.name[step] = expectName();
+                    int field = takeNamed(FIELD);
+                    tree.from[step] = tree.pos[field];
+                    tree.name[step] = tree.name[field];
                 } else {
                     advance();
                 }
@@ -1540,6 +1554,7 @@ public final class LoanHouse {
         // The one that was in scope last when this one came into it.
         private final int[] outer = new int[VARIABLES];
         private final int[] firstLeaf = new int[VARIABLES];
+        private final int[] leafCount = new int[VARIABLES];
         private final int[] cell = new int[VARIABLES];
         // Bit i: LOAN i of the fn is of a place that this one's name begins.
         private final long[] loans = new long[VARIABLES];
@@ -1562,10 +1577,16 @@ public final class LoanHouse {
             type[total] = newType;
             outer[total] = newOuter;
             firstLeaf[total] = 0;
+            leafCount[total] = 0;
             cell[total] = 0;
             loans[total] = 0;
             total++;
             return total - 1;
+        }
+
+        /** The LEAVES of a variable as bits, counted from its fn's first LEAF. */
+        private long leafBits(int v, int from) {
+            return ((1L << leafCount[v]) - 1) << (firstLeaf[v] - from);
         }
 
         private int find(int wanted, int latest) {
@@ -2605,7 +2626,16 @@ public final class LoanHouse {
             places = into.places;
             for (int f = 0; f < functions.total; f++) {
                 layOut(f);
-                emitFunction(f);
+                functions.entry[f] = program.slots;
+                int node = functions.node[f];
+                int body = tree.c[node];
+                top = NONE;
+                for (int param = tree.a[node]; param != 0; param = tree.next[param]) {
+                    top = tree.ref[param];
+                }
+                block(body);
+                ends(NONE, tree.pos[body]);
+                emit(OP_RETURN, 0, 0, 0, tree.pos[body]);
             }
             labelAll();
         }
@@ -2617,6 +2647,7 @@ public final class LoanHouse {
                 variables.cell[v] = cell;
                 variables.firstLeaf[v] = variables.leaves;
                 addLeaves(variables.type[v], cell, MOST_PARTS);
+                variables.leafCount[v] = variables.leaves - variables.firstLeaf[v];
                 cell += types.cellsOf(variables.type[v]);
             }
             functions.cells[f] = cell;
@@ -2631,19 +2662,6 @@ public final class LoanHouse {
             for (int m = types.declFirst[d]; m < types.declFirst[d] + types.declWidth[d]; m++) {
                 addLeaves(types.memberType[m], cell + types.memberCell[m], depth - 1);
             }
-        }
-
-        private void emitFunction(int f) {
-            int node = functions.node[f];
-            int body = tree.c[node];
-            functions.entry[f] = program.slots;
-            top = NONE;
-            for (int param = tree.a[node]; param != 0; param = tree.next[param]) {
-                top = tree.ref[param];
-            }
-            block(body);
-            ends(NONE, tree.pos[body]);
-            emit(OP_RETURN, 0, 0, 0, tree.pos[body]);
         }
 
         private int emit(int op, int x, int y, int z, int pos) {
@@ -3004,6 +3022,7 @@ public final class LoanHouse {
         private static final int UNHELD = 1;
         private static final int HOLDS = 2;
         private static final int WIDTH = HOLDS + MOST_VARIABLES;
+        private static final int FIRST_LABELS = 48;
 
         private Program program;
         private Functions functions;
@@ -3013,8 +3032,8 @@ public final class LoanHouse {
         private int first;
         private final long[] state = new long[WIDTH];
         private boolean come;
-        private final long[] labelState = new long[LABELS * WIDTH];
-        private final boolean[] labelCome = new boolean[LABELS];
+        private long[] labelState = new long[FIRST_LABELS * WIDTH];
+        private boolean[] labelCome = new boolean[FIRST_LABELS];
         private boolean changed;
         private long splits;
         // What the values hold that are worked out and not used yet, and the values of the matches.
@@ -3051,9 +3070,7 @@ public final class LoanHouse {
             straySlot = NONE;
             clashPlace = NO_PLACE;
             clashOther = NONE;
-            for (int label = 0; label < program.labels && label < LABELS; label++) {
-                labelCome[label] = false;
-            }
+            clearLabels();
             for (int f = 0; f < functions.total; f++) {
                 fn = f;
                 first = functions.firstVariable[f];
@@ -3066,6 +3083,20 @@ public final class LoanHouse {
                 splits = 0;
                 pass(true);
                 functions.splits[f] = Long.bitCount(splits);
+            }
+        }
+
+        private void clearLabels() {
+            int room = labelCome.length;
+            for (int turn = 0; turn < 8 && room < program.labels; turn++) {
+                room *= 2;
+            }
+            if (room > labelCome.length) {
+                labelCome = new boolean[room];
+                labelState = new long[room * WIDTH];
+            }
+            for (int label = 0; label < program.labels && label < room; label++) {
+                labelCome[label] = false;
             }
         }
 
@@ -3148,7 +3179,7 @@ public final class LoanHouse {
 
         private void arrive(int at) {
             int label = program.label[at];
-            if (label < 0 || label >= LABELS) {
+            if (label < 0 || label >= labelCome.length) {
                 return;
             }
             if (come) {
@@ -3178,7 +3209,7 @@ public final class LoanHouse {
             int target = program.x[at];
             int label = target < 0 || target >= program.slots ? NONE : program.label[target];
             // What a leap forward brings is met in the same pass.
-            if (label >= 0 && label < LABELS && join(label) && target <= at) {
+            if (label >= 0 && label < labelCome.length && join(label) && target <= at) {
                 changed = true;
             }
         }
@@ -3331,8 +3362,7 @@ public final class LoanHouse {
         }
 
         private long leafBits(int v) {
-            int leaves = program.types.leavesOf(variables.type[v]);
-            return ((1L << leaves) - 1) << (variables.firstLeaf[v] - functions.firstLeaf[fn]);
+            return variables.leafBits(v, functions.firstLeaf[fn]);
         }
 
         private void giveLeaves(long bits) {
@@ -3542,11 +3572,10 @@ public final class LoanHouse {
         private int told;
         private int strays;
         private int twices;
-        private int clashes;
-        // What waits to be dropped: values, and rows (with a negative type) from an element on.
+        // What waits to be dropped: values where they are, and (with a negative type) the elements of a row from one
+        // on, told as the row's number times their most, and that one's.
         private final int[] dropType = new int[DROPS];
         private final int[] dropAt = new int[DROPS];
-        private final int[] dropNext = new int[DROPS];
 
         private void clear(Types newTypes) {
             types = newTypes;
@@ -3560,7 +3589,6 @@ public final class LoanHouse {
             told = 0;
             strays = 0;
             twices = 0;
-            clashes = 0;
             for (int box = 0; box < MOST_BOXES; box++) {
                 boxUsed[box] = false;
             }
@@ -3709,61 +3737,57 @@ public final class LoanHouse {
         // ---- dropping
 
         private void drop(int type, int at) {
-            int waiting = await(0, type, at, 0);
+            int waiting = await(0, type, at);
             for (int turn = 0; turn < MANY && waiting > 0; turn++) {
-                int t = dropType[waiting - 1];
-                int where = dropAt[waiting - 1];
+                waiting--;
+                int t = dropType[waiting];
+                int where = dropAt[waiting];
                 if (t < 0) {
-                    waiting = dropElement(waiting, -t, where);
-                } else {
-                    waiting = dropValue(waiting - 1, t, where);
+                    waiting = dropElement(waiting, -t, where / ROW_SPAN, where % ROW_SPAN);
+                } else if (types.kind[t] == NAMED) {
+                    waiting = dropNamed(waiting, types.arg[t], where);
+                } else if (types.kind[t] == BOX) {
+                    waiting = dropBox(waiting, types.arg[t], cells[where]);
+                } else if (types.kind[t] == ROW) {
+                    waiting = dropRow(waiting, types.arg[t], cells[where]);
                 }
             }
         }
 
-        private int await(int waiting, int type, int at, int next) {
+        private int await(int waiting, int type, int at) {
             if (waiting >= DROPS) {
                 return waiting;
             }
             dropType[waiting] = type;
             dropAt[waiting] = at;
-            dropNext[waiting] = next;
             return waiting + 1;
         }
 
-        private int dropElement(int waiting, int type, int row) {
-            int i = dropNext[waiting - 1];
+        private int dropElement(int waiting, int type, int row, int i) {
             if (i >= rowLength[row]) {
-                return waiting - 1;
+                return waiting;
             }
-            dropNext[waiting - 1] = i + 1;
-            return await(waiting, type, elementAt(row, i), 0);
+            int more = await(waiting, -type, row * ROW_SPAN + i + 1);
+            return await(more, type, elementAt(row, i));
         }
 
-        private int dropValue(int waiting, int type, int at) {
-            switch (types.kind[type]) {
-                case NAMED:
-                    return dropNamed(waiting, types.arg[type], at);
-                case BOX:
-                    if (!isBox(cells[at])) {
-                        twices++;
-                        return waiting;
-                    }
-                    int box = (int) cells[at];
-                    freeBox(box);
-                    return await(waiting, types.arg[type], box * MOST_CELLS, 0);
-                case ROW:
-                    if (!isRow(cells[at])) {
-                        twices++;
-                        return waiting;
-                    }
-                    int row = (int) cells[at];
-                    rowUsed[row] = false;
-                    rows--;
-                    return await(waiting, -types.arg[type], row, 0);
-                default:
-                    return waiting;
+        private int dropBox(int waiting, int type, long box) {
+            if (!isBox(box)) {
+                twices++;
+                return waiting;
             }
+            freeBox((int) box);
+            return await(waiting, type, (int) box * MOST_CELLS);
+        }
+
+        private int dropRow(int waiting, int type, long row) {
+            if (!isRow(row)) {
+                twices++;
+                return waiting;
+            }
+            rowUsed[(int) row] = false;
+            rows--;
+            return await(waiting, -type, (int) row * ROW_SPAN);
         }
 
         /** A told record tells; then its parts, a record's or a choice's, wait in order. */
@@ -3785,7 +3809,7 @@ public final class LoanHouse {
             }
             int more = waiting;
             for (int m = first + width - 1; m >= first; m--) {
-                more = await(more, types.memberType[m], at + types.memberCell[m], 0);
+                more = await(more, types.memberType[m], at + types.memberCell[m]);
             }
             return more;
         }
@@ -3804,11 +3828,8 @@ public final class LoanHouse {
         private int base;
         private long held;
         private int next;
-        // The same of the calls that wait for it.
-        private final int[] waitingFn = new int[MOST_CALLS];
-        private final int[] waitingBase = new int[MOST_CALLS];
-        private final long[] waitingHeld = new long[MOST_CALLS];
-        private final int[] waitingNext = new int[MOST_CALLS];
+        // The same four of each call that waits for it.
+        private final long[][] waiting = new long[MOST_CALLS][4];
         private int calls;
         private final long[] parts = new long[MOST_CELLS];
         private long[] given;
@@ -3839,8 +3860,17 @@ public final class LoanHouse {
             open(functions.main, CALLS_AT);
             for (long turn = 0; turn < MOST_SLOTS_RUN && ended < 0; turn++) {
                 int at = next;
+                int op = program.op[at];
                 next++;
-                perform(at, program.op[at]);
+                if (op <= LAST_PLACE_OP) {
+                    performAct(at, op, program.x[at]);
+                } else if (op <= LAST_VALUE_OP) {
+                    performValue(at, op);
+                } else if (op <= LAST_VARIABLE_OP) {
+                    performVariable(at, op);
+                } else {
+                    performWay(at, op);
+                }
             }
             if (ended == FAILED) {
                 unwind();
@@ -3889,31 +3919,14 @@ public final class LoanHouse {
             store.top = taken;
             held = 0;
             for (int i = 0; i < functions.params[f]; i++) {
-                held |= leafBits(functions.firstVariable[f] + i);
+                held |= variables.leafBits(functions.firstVariable[f] + i, functions.firstLeaf[f]);
             }
-        }
-
-        private long leafBits(int v) {
-            int leaves = types.leavesOf(variables.type[v]);
-            return ((1L << leaves) - 1) << (variables.firstLeaf[v] - functions.firstLeaf[fn]);
         }
 
         private void fail(int reason, int pos) {
             ended = FAILED;
             why = reason;
             failedAt = pos;
-        }
-
-        private void perform(int at, int op) {
-            if (op <= LAST_PLACE_OP) {
-                performAct(at, op, program.x[at]);
-            } else if (op <= LAST_VALUE_OP) {
-                performValue(at, op);
-            } else if (op <= LAST_VARIABLE_OP) {
-                performVariable(at, op);
-            } else {
-                performWay(at, op);
-            }
         }
 
         // ---- acts of places
@@ -4227,14 +4240,14 @@ public final class LoanHouse {
         private void putVariable(int v, int from) {
             int cell = base + variables.cell[v];
             System.arraycopy(store.cells, from, store.cells, cell, types.cellsOf(variables.type[v]));
-            held |= leafBits(v);
+            held |= variables.leafBits(v, functions.firstLeaf[fn]);
         }
 
         private void bind(int v, int part) {
             int value = store.topValue();
             if (types.isReference(store.typeOnTop())) {
                 store.cells[base + variables.cell[v]] = store.cells[value] + part;
-                held |= leafBits(v);
+                held |= variables.leafBits(v, functions.firstLeaf[fn]);
             } else {
                 putVariable(v, value + part);
             }
@@ -4242,8 +4255,7 @@ public final class LoanHouse {
 
         private void endVariable(int v) {
             int leaf = variables.firstLeaf[v] - functions.firstLeaf[fn];
-            int leaves = types.leavesOf(variables.type[v]);
-            for (int i = leaf; i < leaf + leaves; i++) {
+            for (int i = leaf; i < leaf + variables.leafCount[v]; i++) {
                 dropLeaf(i);
             }
         }
@@ -4312,10 +4324,11 @@ public final class LoanHouse {
                 cell += width;
                 from += width + 1;
             }
-            waitingFn[calls - 1] = fn;
-            waitingBase[calls - 1] = base;
-            waitingHeld[calls - 1] = held;
-            waitingNext[calls - 1] = next;
+            long[] caller = waiting[calls - 1];
+            caller[0] = fn;
+            caller[1] = base;
+            caller[2] = held;
+            caller[3] = next;
             open(f, newBase);
         }
 
@@ -4334,10 +4347,11 @@ public final class LoanHouse {
         private void resume() {
             calls--;
             if (calls > 0) {
-                fn = waitingFn[calls - 1];
-                base = waitingBase[calls - 1];
-                held = waitingHeld[calls - 1];
-                next = waitingNext[calls - 1];
+                long[] caller = waiting[calls - 1];
+                fn = (int) caller[0];
+                base = (int) caller[1];
+                held = caller[2];
+                next = (int) caller[3];
             }
         }
 
