@@ -254,7 +254,8 @@ public final class LoanHouse {
         }
         textLength = 0;
         faultOther = NONE;
-        faultKind = judgeText(n);
+        faultPlace = reader.read(text, n);
+        faultKind = faultPlace >= 0 ? 1 : judgeTree(n);
         if (faultKind == 0) {
             faultPlace = NONE;
             takeNext();
@@ -272,11 +273,7 @@ public final class LoanHouse {
         hasRun = false;
     }
 
-    private int judgeText(int length) {
-        faultPlace = reader.read(text, length);
-        if (faultPlace >= 0) {
-            return 1;
-        }
+    private int judgeTree(int length) {
         if (hasProgram && next == null) {
             next = new Program();
         }
@@ -881,7 +878,11 @@ public final class LoanHouse {
             int node;
             switch (kind) {
                 case W_LET:
-                    return let();
+                    advance();
+                    node = takeNamed(W_LET);
+                    tree.a[node] = accept(':') ? type() : 0;
+                    tree.b[node] = accept('=') ? exp() : 0;
+                    return node;
                 case W_PUSH:
                     node = take(kind);
                     pair(node);
@@ -909,14 +910,6 @@ public final class LoanHouse {
                     fail();
                     return 0;
             }
-        }
-
-        private int let() {
-            advance();
-            int node = takeNamed(W_LET);
-            tree.a[node] = accept(':') ? type() : 0;
-            tree.b[node] = accept('=') ? exp() : 0;
-            return node;
         }
 
         private int assignOrCall() {
@@ -3858,7 +3851,7 @@ public final class LoanHouse {
             store.clear(types);
             calls = 0;
             open(functions.main, CALLS_AT);
-            for (long turn = 0; turn < MOST_SLOTS_RUN && ended < 0; turn++) {
+            for (long turn = 0; turn < MOST_SLOTS_RUN && ended < 0 && next < program.slots; turn++) {
                 int at = next;
                 int op = program.op[at];
                 next++;
