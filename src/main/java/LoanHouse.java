@@ -1228,7 +1228,7 @@ public final class LoanHouse {
         // Of a record its fields among the members, of a choice its variants among the variants.
         private final int[] declFirst = new int[DECLS];
         private final int[] declWidth = new int[DECLS];
-        // 0 cells has what has itself within.
+        // NONE is what has itself within, or such a one.
         private final int[] declCells = new int[DECLS];
         private final int[] declParts = new int[DECLS];
         private final int[] declLeaves = new int[DECLS];
@@ -1289,7 +1289,7 @@ public final class LoanHouse {
 
         /** Whether a variable of the type has the LEAVES of its fields, and is none itself. */
         private boolean isOpened(int t) {
-            return kind[t] == NAMED && declForm[arg[t]] == RECORD && declWidth[arg[t]] > 0 && declCells[arg[t]] > 0;
+            return kind[t] == NAMED && declForm[arg[t]] == RECORD && declWidth[arg[t]] > 0 && declCells[arg[t]] >= 0;
         }
 
         private int cellsOf(int t) {
@@ -1352,7 +1352,7 @@ public final class LoanHouse {
                 declForm[decls] = form;
                 declFirst[decls] = 0;
                 declWidth[decls] = 0;
-                declCells[decls] = 0;
+                declCells[decls] = NONE;
                 declParts[decls] = 0;
                 declLeaves[decls] = 1;
                 decls++;
@@ -1383,7 +1383,7 @@ public final class LoanHouse {
             for (int turn = 0; turn <= decls && more; turn++) {
                 more = false;
                 for (int d = 0; d < decls; d++) {
-                    if (declCells[d] == 0 && known(d)) {
+                    if (declCells[d] < 0 && known(d)) {
                         measureDecl(d);
                         more = true;
                     }
@@ -1408,7 +1408,7 @@ public final class LoanHouse {
 
         private boolean known(int d) {
             for (int m = firstMember(d); m < endMember(d); m++) {
-                if (memberType[m] != UNTYPED && cellsOf(memberType[m]) == 0) {
+                if (cellsOf(memberType[m]) < 0) {
                     return false;
                 }
             }
@@ -1426,7 +1426,8 @@ public final class LoanHouse {
                 cells = Math.max(cells, layOut(variantFirst[v], variantWidth[v], 1));
                 parts = Math.max(parts, sumOfParts(variantFirst[v], variantWidth[v]));
             }
-            declCells[d] = Math.max(1, Math.min(cells, MANY));
+            boolean bare = declForm[d] != CHOICE && declWidth[d] == 0;
+            declCells[d] = bare ? 1 : Math.min(cells, MANY);
             declParts[d] = Math.min(parts + 1, MANY);
             int leaves = 0;
             for (int m = declFirst[d]; declForm[d] == RECORD && m < declFirst[d] + declWidth[d]; m++) {
@@ -1886,28 +1887,31 @@ public final class LoanHouse {
             for (int item = items; item != 0; item = tree.next[item]) {
                 int name = tree.name[item];
                 if (tree.kind[item] == W_FN) {
-                    limit(functions.total, MOST_FUNCTIONS, tree.from[item]);
+                    withinLimit(functions.total, MOST_FUNCTIONS, tree.from[item]);
                     unlike(functions.find(name), tree.pos[item]);
                     functions.add(name, item);
                 } else {
-                    limit(types.decls, MOST_DECLS, tree.from[item]);
+                    withinLimit(types.decls, MOST_DECLS, tree.from[item]);
                     unlike(types.findDecl(name), tree.pos[item]);
                     types.addDecl(name, tree.ref[item]);
                 }
             }
         }
 
-        /** One more of what there are so many of already. */
-        private void limit(int already, int most, int pos) {
+        /** Whether there may be one more of what there are so many of already. */
+        private boolean withinLimit(int already, int most, int pos) {
             if (already >= most) {
                 broken(pos);
             }
+            return already < most;
         }
 
-        private void unlike(int found, int pos) {
+        /** Whether no other one of the name was found. */
+        private boolean unlike(int found, int pos) {
             if (found >= 0) {
                 broken(pos);
             }
+            return found < 0;
         }
 
         private void members(int item, int d) {
@@ -1917,7 +1921,7 @@ public final class LoanHouse {
             if (tree.kind[item] == W_CHOICE) {
                 types.declFirst[d] = types.variants;
                 for (int variant = tree.a[item]; variant != 0; variant = tree.next[variant]) {
-                    limit(types.declWidth[d], MOST_VARIANTS, tree.pos[variant]);
+                    withinLimit(types.declWidth[d], MOST_VARIANTS, tree.pos[variant]);
                     unlike(types.findVariant(d, tree.name[variant]), tree.pos[variant]);
                     variantTypes(variant);
                     types.declWidth[d] = types.variants - types.declFirst[d];
@@ -1926,9 +1930,10 @@ public final class LoanHouse {
             }
             types.declFirst[d] = types.members;
             for (int field = tree.a[item]; field != 0; field = tree.next[field]) {
-                limit(types.declWidth[d], MOST_FIELDS, tree.pos[field]);
-                unlike(types.findField(d, tree.name[field]), tree.pos[field]);
-                types.addMember(tree.name[field], ownedType(tree.a[field]));
+                boolean kept = withinLimit(types.declWidth[d], MOST_FIELDS, tree.pos[field])
+                    & unlike(types.findField(d, tree.name[field]), tree.pos[field]);
+                int type = ownedType(tree.a[field]);
+                types.addMember(tree.name[field], kept ? type : UNTYPED);
                 types.declWidth[d] = types.members - types.declFirst[d];
             }
             if (tree.ref[item] == TOLD_RECORD && !beginsWithInt(d)) {
@@ -1944,8 +1949,9 @@ public final class LoanHouse {
             types.addVariant(tree.name[variant]);
             int v = types.variants - 1;
             for (int type = tree.a[variant]; type != 0; type = tree.next[type]) {
-                limit(types.variantWidth[v], MOST_VARIANT_TYPES, tree.pos[type]);
-                types.addMember(0, ownedType(type));
+                boolean kept = withinLimit(types.variantWidth[v], MOST_VARIANT_TYPES, tree.pos[type]);
+                int told = ownedType(type);
+                types.addMember(0, kept ? told : UNTYPED);
                 types.variantWidth[v] = types.members - types.variantFirst[v];
             }
         }
@@ -1957,7 +1963,7 @@ public final class LoanHouse {
                     continue;
                 }
                 int cells = types.declCells[d];
-                if (cells == 0 || cells > MOST_CELLS || types.declParts[d] > MOST_PARTS) {
+                if (cells < 0 || cells > MOST_CELLS || types.declParts[d] > MOST_PARTS) {
                     broken(tree.pos[item]);
                 }
                 d++;
@@ -1968,11 +1974,13 @@ public final class LoanHouse {
             int node = functions.node[f];
             functions.firstParam[f] = functions.paramTotal;
             for (int param = tree.a[node]; param != 0; param = tree.next[param]) {
-                limit(functions.params[f], MOST_PARAMS, tree.pos[param]);
+                boolean kept = withinLimit(functions.params[f], MOST_PARAMS, tree.pos[param]);
                 if (earlier(tree.a[node], param)) {
                     broken(tree.pos[param]);
+                    kept = false;
                 }
-                functions.addParam(f, typeIn(tree.a[param]));
+                int type = typeIn(tree.a[param]);
+                functions.addParam(f, kept ? type : UNTYPED);
             }
             int result = tree.b[node];
             if (result == 0) {
@@ -2098,7 +2106,7 @@ public final class LoanHouse {
         }
 
         private int addVariable(int node, int type) {
-            limit(functions.variables[fn], MOST_VARIABLES, tree.pos[node]);
+            withinLimit(functions.variables[fn], MOST_VARIABLES, tree.pos[node]);
             functions.variables[fn]++;
             int leaves = types.leavesOf(type);
             functions.leaves[fn] = Math.min(functions.leaves[fn] + leaves, MANY);
@@ -2372,18 +2380,18 @@ public final class LoanHouse {
             int v = variables.find(tree.name[place], top);
             int step = tree.a[place];
             boolean shares = v >= 0 && types.kind[variables.type[v]] == SHARED && step != 0 && tree.kind[step] == '^';
+            boolean kept = shares || withinLimit(functions.loans[fn], MOST_LOANS, tree.pos[node]);
             tree.ref[node] = shares ? NONE : addLoan(node, v);
             int type = typeOfPlace(place, tree.kind[node] == '&' ? ACT_LEND : ACT_SOLE);
             if (types.isReference(type)) {
                 broken(tree.pos[node]);
-                return UNTYPED;
+                kept = false;
             }
-            return types.typeOf(tree.kind[node] == '&' ? SHARED : SOLE, type);
+            return kept ? types.typeOf(tree.kind[node] == '&' ? SHARED : SOLE, type) : UNTYPED;
         }
 
         /** The LOAN is of the place that is numbered next. */
         private int addLoan(int node, int v) {
-            limit(functions.loans[fn], MOST_LOANS, tree.pos[node]);
             if (v >= 0 && functions.loans[fn] < MOST_LOANS) {
                 variables.loans[v] |= 1L << functions.loans[fn];
             }
@@ -2464,8 +2472,8 @@ public final class LoanHouse {
             boolean whole = true;
             int i = 0;
             for (int element = tree.a[node]; element != 0; element = tree.next[element]) {
-                limit(i, MOST_ELEMENTS, tree.from[element]);
-                whole &= due(element, type) && i < MOST_ELEMENTS;
+                whole &= withinLimit(i, MOST_ELEMENTS, tree.from[element]);
+                whole &= due(element, type);
                 i++;
             }
             return whole ? types.typeOf(ROW, type) : UNTYPED;

@@ -16,6 +16,7 @@ public final class RulesTest {
         matches();
         functions();
         untyped();
+        oneTooMany();
         House.end("RulesTest");
     }
 
@@ -374,5 +375,37 @@ public final class RulesTest {
         wrong("fn f(a: @X) -> & int of a { fail; } fn main() { }");
         wrong("fn f(a: & int) -> @X of a { fail; } fn main() { }");
         wrong(main("let a: bool = f();") + " fn f() -> box @X { fail; }");
+        // A record whose only field has no type has no cells.
+        wrong("record R { s: S, " + list("f#: int", 1, 8) + " } record S { x: @X } " + main(""));
+        // The second field and the second param of a name have no type.
+        wrong("record R { " + list("f#: int", 1, 8) + ", @f1: int } " + main(""));
+        wrong(main("f(1, true);") + " fn f(a: int, @a: int) { }");
+    }
+
+    private static void oneTooMany() {
+        // What is one too many has no type, so no rule ahead of it is broken by it.
+        String lends = "fn g(a: & int) { } fn h(a: &! int) { } fn main() { let a = 1; let b = & a; "
+            + each("g(& a); ", 1, 49);
+        House.taken(lends + "let c: & int = & b^; }");
+        wrong(lends + "let @c: int = & b^; }");
+        wrong(lends + "let c: int = @& a; }");
+        wrong(lends + "let c: int = @&! a; }");
+        wrong(lends + "let c: & bool = @& a; }");
+        wrong(lends + "g(@&! a); }");
+        wrong(lends + "h(@& a); }");
+        wrong(lends + "print @& a; }");
+        wrong(lends + "match @& a { A => { } } }");
+        wrong(lends + "let c: bool = box(@& a); }");
+        wrong(lends + "let c: bool = f(@& a); } fn f(a: & int) -> int { return a^; }");
+        wrong(lends + "let c = @& b; }");
+        wrong(lends + "@return & a; }");
+        wrong(lends + "} fn f() -> int { let a = 1; " + each("g(& a); ", 1, 50) + "return @& a; }");
+        wrong(main("let a: int = row int [" + list("#", 1, 32) + ", @33];"));
+        String places = "print a" + each("+a", 1, 399) + ";";
+        wrong(main("let a = 1; " + places + " let b: bool = @a;"));
+        wrong(main("let a = 1; " + places + " let b: bool = & @a;"));
+        wrong("choice C { A(" + list("int", 1, 6) + ", @P) } record P { a: int, b: int } " + main(""));
+        wrong(main("let c = new C.A(" + list("#", 1, 6) + ", true);") + " choice C { A(" + list("int", 1, 6) + ", @int) }");
+        wrong(main("f(" + list("#", 1, 8) + ", true);") + " fn f(" + list("a#: int", 1, 8) + ", @a9: int) { }");
     }
 }
