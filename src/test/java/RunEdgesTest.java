@@ -227,15 +227,6 @@ public final class RunEdgesTest {
         House house = ran("print true; print false; print 1 < 2; print not true; t(7);", "1 0 1 0 !7");
         House.due("kind", house.it.out(0, 0), 0);
         House.due("kind", house.it.out(4, 0), 1);
-        House.due("lost", ran("let i = 0; while i < 1000 { print i; i = i + 1; } let a = t(5);", numbers(1000)).it.about(6), 1);
-    }
-
-    private static String numbers(int count) {
-        StringBuilder all = new StringBuilder();
-        for (int i = 0; i < count; i++) {
-            all.append(i == 0 ? "" : " ").append(i);
-        }
-        return all.toString();
     }
 
     /** More are lost, but all else goes on. */
@@ -246,6 +237,11 @@ public final class RunEdgesTest {
         House.due("last", house.it.out(999, 1), 999);
         House.due("dropped", house.it.about(6), 2);
         House.due("lefts", house.it.lefts(), 0);
+        house = House.taken(main("let i = 0; while i < 1000 { print i; i = i + 1; } let a = t(5);"));
+        House.due("run", house.it.run(50000), 0);
+        House.due("entries", house.it.about(4), 1000);
+        House.due("last", house.it.out(999, 1), 999);
+        House.due("dropped", house.it.about(6), 1);
     }
 
     /** 3: an index that is none (at the [). */

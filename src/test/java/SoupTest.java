@@ -21,9 +21,9 @@ public final class SoupTest {
         Random random = new Random(1);
         House house = null;
         for (int i = 0; i < 6000; i++) {
-            if (i % 100 == 0) {
+            if (i % 3 == 0) {
                 house = new House();
-                house.it.give(i / 100);
+                house.it.give(i / 3);
             }
             soup(house, changed(random, TEXTS[i % TEXTS.length]), random);
         }

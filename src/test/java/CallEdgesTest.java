@@ -1,0 +1,414 @@
+import java.util.Arrays;
+
+/**
+ * The promises as calls: bytes fed, arguments below 0 or beyond what there is, calls ahead of any program or run, what stays.
+ * No object is asked more often than 512 times.
+ */
+public final class CallEdgesTest {
+    private static final int[] ODD = {Integer.MIN_VALUE, -1000, -2, -1, 0, 1, 2, 3, 4, 5, 6, 7, 8, 9, 10, 11, 200, 400, 1000, 3000, Integer.MAX_VALUE};
+    private static final int BLANKS = 0x20202020;
+    private static final String GOOD = "record T told { n: int } choice C { A, B(T) } fn f(a: &! int, b: & int) { a^ = b^; let c = & b^; } "
+        + "fn main() { let a = read; let b = 7; f(&! a, & b); print a; let t = new T { n: 2 }; let r = box(row int [a]); if a == 7 { print r^[0]; } }";
+    private static final String[] BAD = {"(", "fn main() { ", "fn main() { \u0001 }", "fn main() { print a; }", "record R { a: R } fn main() { }", "",
+        "fn main() { let a: int; print a; }", "fn main() { let a = box(1); let b = a; let c = a; }",
+        "fn main() { let a = 1; let b = & a; a = 2; print b^; }", "fn f(a: & int) -> & int { return a; } fn main() { }"};
+    private static final int[] KIND = {1, 1, 1, 2, 2, 2, 3, 3, 4, 4};
+
+    public static void main(String[] args) {
+        fresh();
+        noProgram();
+        bytes();
+        fed();
+        judged();
+        faults();
+        gives();
+        runs();
+        asked();
+        notRun();
+        stays();
+        anew();
+        House.end("CallEdgesTest");
+    }
+
+    /** No text, no program. */
+    private static void fresh() {
+        House.due("NONE", LoanHouse.NONE, -1);
+        for (int n : ODD) {
+            House.due("judge of " + n, new LoanHouse().judge(n), n == 0 ? 2 : -1);
+            LoanHouse x = new LoanHouse();
+            x.judge(n);
+            House.due("fault ahead of any", x.fault(0), n == 0 ? 2 : -1);
+        }
+        for (int i : ODD) {
+            without(new LoanHouse(), i);
+        }
+    }
+
+    /** The same while texts have FAULTS and nothing else was judged. */
+    private static void noProgram() {
+        for (int i = 0; i < BAD.length; i++) {
+            for (int odd : ODD) {
+                House house = new House();
+                House.due("judge of " + BAD[i], house.judge(BAD[i]), KIND[i]);
+                house.it.give(3);
+                without(house.it, odd);
+                House.due("fault", house.it.fault(0), KIND[i]);
+            }
+        }
+    }
+
+    /** All that is asked of a program or a run, where there is none. */
+    private static void without(LoanHouse x, int i) {
+        House.due("run of " + i, x.run(i), -1);
+        House.due("about " + i, x.about(i), -1);
+        House.due("count " + i, x.count(i), i >= 0 && i <= 3 ? 0 : -1);
+        House.due("size " + i, x.size(i), -1);
+        for (int what : ODD) {
+            House.due("out " + i, x.out(i, what), 0);
+            House.due("place " + i, x.place(i, what), -1);
+            House.due("loan " + i, x.loan(i, what), -1);
+            House.due("force " + i, x.force(i, what), -1);
+            House.due("function " + i, x.function(i, what), -1);
+        }
+        House.due("run of 50000", x.run(50000), -1);
+        House.due("strays", x.strays(), 0);
+        House.due("twices", x.twices(), 0);
+        House.due("lefts", x.lefts(), 0);
+        House.due("clashes", x.clashes(), 0);
+    }
+
+    /** Twenty bytes, four of each number, the highest first. */
+    private static void bytes() {
+        for (int at = 0; at < 20; at++) {
+            int[] numbers = {BLANKS, BLANKS, BLANKS, BLANKS, BLANKS};
+            // A ) with which no text begins, and a byte that no text holds.
+            for (int sign : new int[] {')', 0, 128, 255}) {
+                int shift = 24 - at % 4 * 8;
+                numbers[at / 4] = BLANKS & ~(255 << shift) | sign << shift;
+                LoanHouse x = new LoanHouse();
+                House.due("feed", x.feed(numbers[0], numbers[1], numbers[2], numbers[3], numbers[4]), 20);
+                House.due("judge of byte " + at, x.judge(20), 1);
+                House.due("place of byte " + at, x.fault(1), at);
+                x.feed(numbers[0], numbers[1], numbers[2], numbers[3], numbers[4]);
+                House.due("judge ahead of byte " + at, x.judge(at), 2);
+                House.due("place ahead of byte " + at, x.fault(1), at);
+                x.feed(numbers[0], numbers[1], numbers[2], numbers[3], numbers[4]);
+                House.due("judge to byte " + at, x.judge(at + 1), 1);
+                House.due("place of byte " + at, x.fault(1), at);
+            }
+        }
+        House house = new House();
+        House.due("feed", house.feed("fn main() { print -12345; }"), 40);
+        House.due("judge", house.it.judge(27), 0);
+        House.due("run", house.it.run(1), 0);
+        House.due("out", house.it.out(0, 1), -12345);
+    }
+
+    /** They come behind the text: how many there are; NONE if there would be more than 3,000. */
+    private static void fed() {
+        LoanHouse x = new LoanHouse();
+        for (int i = 1; i <= 150; i++) {
+            House.due("feed " + i, x.feed(BLANKS, BLANKS, BLANKS, BLANKS, BLANKS), 20 * i);
+        }
+        for (int i = 0; i < 3; i++) {
+            House.due("feed beyond 3000", x.feed(0, 0, 0, 0, 0), -1);
+        }
+        // What was refused is not there: all are blanks still.
+        House.due("judge of 3001", x.judge(3001), -1);
+        House.due("judge of 3000", x.judge(3000), 2);
+        House.due("place", x.fault(1), 3000);
+        // Then there is none.
+        House.due("judge of what is gone", x.judge(1), -1);
+        House.due("feed anew", x.feed(BLANKS, BLANKS, BLANKS, BLANKS, BLANKS), 20);
+        // A program of 2999 and of 3000 bytes, the last of which counts.
+        String text = "fn main() { print 5; }";
+        for (int length : new int[] {2980, 2999, 3000}) {
+            House house = new House();
+            House.due("feed", house.feed(" ".repeat(length - text.length()) + text), length <= 2980 ? 2980 : 3000);
+            House.due("judge", house.it.judge(length), 0);
+            House.due("run", house.it.run(10), 0);
+            House.due("out", house.it.out(0, 1), 5);
+            house = new House();
+            house.feed(" ".repeat(length - text.length()) + text);
+            House.due("judge of one less", house.it.judge(length - 1), 1);
+            House.due("place", house.it.fault(1), length - 1);
+        }
+        // As many statements as there is room for.
+        StringBuilder all = new StringBuilder("fn main() { let a = 1; ");
+        for (int i = 0; i < 396; i++) {
+            all.append(i % 2 == 0 ? "a=a*3;" : "print 1;");
+        }
+        House house = new House();
+        House.due("judge of many", house.judge(all.append("}").toString()), 0);
+        House.due("places", house.it.count(2), 396);
+        House.due("length", all.length() <= 3000 ? 1 : 0, 1);
+        House.due("run", house.it.run(50000), 0);
+        House.due("STEPS", house.it.about(3), 397);
+    }
+
+    /** NONE, doing nothing, if n is below 0 or more than there are; else the first n bytes, and there is no text then. */
+    private static void judged() {
+        String text = "fn main() { print 1; } fn f() { print q; }";
+        House house = new House();
+        int fed = house.feed(text);
+        House.due("fed", fed, 60);
+        for (int n : new int[] {-1, -60, Integer.MIN_VALUE, 61, 62, 3000, 3001, Integer.MAX_VALUE}) {
+            House.due("judge of " + n, house.it.judge(n), -1);
+            House.due("fault", house.it.fault(0), -1);
+            House.due("no program", house.it.count(1), 0);
+        }
+        House.due("judge of 22", house.it.judge(22), 0);
+        for (int n : new int[] {-1, 1, 20, 22, 60, Integer.MAX_VALUE}) {
+            House.due("judge of what is gone", house.it.judge(n), -1);
+            House.due("fault", house.it.fault(0), 0);
+            House.due("the program", house.it.count(1), 1);
+        }
+        House.due("feed", house.feed(text), 60);
+        House.due("judge of 60", house.it.judge(60), 2);
+        House.due("place", house.it.fault(1), text.indexOf('q'));
+        // Also behind a FAULT there is no text.
+        House.due("judge of 1", house.it.judge(1), -1);
+        House.due("place", house.it.fault(1), text.indexOf('q'));
+        House.due("feed", house.feed(text), 60);
+        House.due("judge of 0", house.it.judge(0), 2);
+        House.due("place", house.it.fault(1), 0);
+        House.due("judge of 1", house.it.judge(1), -1);
+        House.due("feed behind", house.it.feed(BLANKS, BLANKS, BLANKS, BLANKS, BLANKS), 20);
+        House.due("feed behind", house.feed(text), 80);
+        House.due("judge of 42", house.it.judge(42), 0);
+        House.due("run", house.it.run(9), 0);
+    }
+
+    /** 0: its FAULT (0 without), 1: its place, 2: the other place of FAULTS 3 and 4; NONE if there is none such. */
+    private static void faults() {
+        int[] places = {0, 12, 12, 18, 7, 0, 30, 47, 36, 26};
+        int[] others = {-1, -1, -1, -1, -1, -1, 16, 36, 31, 5};
+        House house = new House();
+        for (int turn = 0; turn < 2; turn++) {
+            for (int i = 0; i < BAD.length; i++) {
+                house = i % 5 == 0 ? new House() : house;
+                House.due("judge of " + BAD[i], house.judge(BAD[i]), KIND[i]);
+                told(house.it, KIND[i], places[i], others[i]);
+                // One that is NONE is not the latest.
+                house.it.judge(-1);
+                house.it.judge(4000);
+                told(house.it, KIND[i], places[i], others[i]);
+                if (turn == 1) {
+                    House.due("judge", house.judge(GOOD), 0);
+                    told(house.it, 0, -1, -1);
+                }
+            }
+        }
+    }
+
+    private static void told(LoanHouse x, int kind, int place, int other) {
+        for (int what : ODD) {
+            House.due("fault " + what, x.fault(what), what == 0 ? kind : what == 1 ? place : what == 2 ? other : -1);
+        }
+    }
+
+    /** How many there are, those that were read too; NONE if there are 200. */
+    private static void gives() {
+        House house = House.taken("fn main() { let i = 0; while i < 3 { print read; i = i + 1; } }");
+        for (int i = 1; i <= 200; i++) {
+            House.due("give " + i, house.it.give(i == 1 ? Long.MIN_VALUE : i == 2 ? Long.MAX_VALUE : -i), i);
+            if (i % 50 == 0) {
+                House.due("run", house.it.run(100), 0);
+                House.due("reads", house.it.about(9), 3);
+                House.due("first", house.it.out(0, 1), Long.MIN_VALUE);
+                House.due("second", house.it.out(1, 1), Long.MAX_VALUE);
+                House.due("third", house.it.out(2, 1), -3);
+            }
+        }
+        for (long v : new long[] {0, 1, Long.MIN_VALUE}) {
+            House.due("give too many", house.it.give(v), -1);
+        }
+        // They stay for other programs, and those that have a FAULT take none.
+        house.judge("(");
+        House.due("judge", house.judge("fn main() { let i = 0; let s = 0; while i < 202 { s = read; i = i + 1; if i > 198 { print s; } } }"), 0);
+        House.due("give too many", house.it.give(1), -1);
+        House.due("run", house.it.run(50000), 0);
+        House.same("the last", house.out(), "-199 -200 0 0");
+        House.due("reads", house.it.about(9), 202);
+    }
+
+    private static void runs() {
+        House house = House.taken(GOOD);
+        for (int steps : ODD) {
+            boolean right = steps >= 1 && steps <= 50000;
+            int answer = house.it.run(steps);
+            House.due("run of " + steps, answer >= 0 ? 1 : 0, right ? 1 : 0);
+        }
+        House.due("the latest", house.it.about(0), 0);
+        House.due("run of 50001", house.it.run(50001), -1);
+        House.due("run of 50000", house.it.run(50000), 0);
+        House.due("run of 1", house.it.run(1), 2);
+        House.due("STEPS", house.it.about(3), 1);
+        House.due("run of 0", house.it.run(0), -1);
+        House.due("STEPS", house.it.about(3), 1);
+    }
+
+    /** Each question at the least and the last thing there is, and beyond. */
+    private static void asked() {
+        House house = House.taken(GOOD);
+        LoanHouse x = house.it;
+        House.due("run", x.run(100), 0);
+        House.same("out", house.out(), "7 7 !2");
+        int[] about = {0, -1, -1, 10, 3, 1, 1, 1, 1, 1};
+        int[] counts = {2, 2, 9, 2};
+        for (int what : ODD) {
+            House.due("about " + what, x.about(what), what >= 0 && what < 10 ? about[what] : -1);
+            House.due("count " + what, x.count(what), what >= 0 && what < 4 ? counts[what] : -1);
+            House.due("size " + what, x.size(what), what == 0 ? 1 : what == 1 ? 2 : -1);
+        }
+        for (int i : ODD) {
+            asked(i);
+        }
+    }
+
+    private static void asked(int i) {
+        House house = House.taken(GOOD);
+        LoanHouse x = house.it;
+        House.due("run", x.run(100), 0);
+        for (int what : ODD) {
+            House.due("place " + i + " " + what, x.place(i, what) >= 0 ? 1 : 0, i >= 0 && i < 9 && what >= 0 && what < 5 ? 1 : 0);
+            House.due("loan " + i + " " + what, x.loan(i, what) >= 0 ? 1 : 0, i >= 0 && i < 2 && what >= 0 && what < 4 ? 1 : 0);
+            House.due("function " + i + " " + what, x.function(i, what) >= 0 ? 1 : 0, i >= 0 && i < 2 && what >= 0 && what < 4 ? 1 : 0);
+            House.due("force " + i + " " + what, x.force(i, what) >= 0 ? 1 : 0, i >= 0 && i < 2 && what >= 0 && what < 9 ? 1 : 0);
+            House.due("out " + i + " " + what, x.out(i, what) != 0 ? 1 : 0, what == 1 && i >= 0 && i < 3 || what == 0 && i == 2 ? 1 : 0);
+        }
+        // A fn main without variables, a program without records, places and LOANS.
+        x = House.taken("fn main() { }").it;
+        House.due("run", x.run(1), 0);
+        House.due("size", x.size(i), -1);
+        House.due("count", x.count(i), i == 1 ? 1 : i == 0 || i == 2 || i == 3 ? 0 : -1);
+        House.due("about", x.about(i), i == 0 || i >= 3 && i <= 9 ? 0 : -1);
+        for (int what : ODD) {
+            House.due("place", x.place(i, what), -1);
+            House.due("loan", x.loan(i, what), -1);
+            House.due("force", x.force(i, what), -1);
+            House.due("out", x.out(i, what), 0);
+            House.due("function", x.function(i, what), i == 0 && what >= 0 && what < 4 ? 0 : -1);
+        }
+    }
+
+    /** A program that was judged is not run yet, also when the one ahead was. */
+    private static void notRun() {
+        House house = House.taken(GOOD);
+        for (int turn = 0; turn < 4; turn++) {
+            for (int i : ODD) {
+                House.due("about " + i, house.it.about(i), -1);
+                House.due("out " + i, house.it.out(i, 1), 0);
+                House.due("out " + i, house.it.out(0, i), 0);
+            }
+            House.due("strays", house.it.strays(), 0);
+            House.due("twices", house.it.twices(), 0);
+            House.due("lefts", house.it.lefts(), 0);
+            House.due("clashes", house.it.clashes(), 0);
+            House.due("run of 0", house.it.run(0), -1);
+            House.due("about", house.it.about(0), -1);
+            House.due("run", house.it.run(turn == 1 ? 3 : 100), turn == 1 ? 2 : 0);
+            House.due("about", house.it.about(0), turn == 1 ? 2 : 0);
+            House.due("judge", house.judge(turn == 2 ? "fn main() { print 1; }" : GOOD), 0);
+        }
+    }
+
+    private static long[] all(LoanHouse x) {
+        long[] all = new long[200];
+        int n = 0;
+        for (int i = -1; i < 11; i++) {
+            all[n++] = x.about(i);
+            all[n++] = x.place(i, 0);
+            all[n++] = x.place(i, i % 5);
+            all[n++] = x.force(0, i);
+            all[n++] = x.force(1, i);
+        }
+        for (int i = 0; i < 4; i++) {
+            all[n++] = x.count(i);
+            all[n++] = x.size(i);
+            for (int what = 0; what < 4; what++) {
+                all[n++] = x.loan(i, what);
+                all[n++] = x.function(i, what);
+                all[n++] = x.out(i, what);
+            }
+        }
+        all[n++] = x.strays();
+        all[n++] = x.twices();
+        all[n++] = x.lefts();
+        all[n++] = x.clashes();
+        return all;
+    }
+
+    /** Its FAULT, and all stays as it was but for fault(): of a program that was not run, ran, failed or was cut. */
+    private static void stays() {
+        String failing = GOOD.replace("print r^[0];", "print r^[1];").replace("a == 7", "a == 7 or true");
+        for (String program : new String[] {GOOD, failing}) {
+            for (int state = 0; state < 3; state++) {
+                for (int i = 0; i < BAD.length; i++) {
+                    stays(program, state, i);
+                }
+            }
+        }
+        // Of a FAULT in a text that has much more of all than the program.
+        StringBuilder much = new StringBuilder();
+        for (int i = 0; i < 20; i++) {
+            much.append("record R").append(i).append(" { a: int, b: bool } fn f").append(i).append("(a: R").append(i).append(") { let b = a; let c = & b; print c^.a; } ");
+        }
+        for (String end : new String[] {"fn main() { let a: int; print a; }", "fn main() { let a = 1; let b = & a; a = 2; print b^; }", "fn main() { print q; }", "fn"}) {
+            House house = House.taken(GOOD);
+            house.it.run(100);
+            long[] ahead = all(house.it);
+            House.due("judge", house.judge(much + end) > 0 ? 1 : 0, 1);
+            House.due("all stays", Arrays.equals(all(house.it), ahead) ? 1 : 0, 1);
+        }
+    }
+
+    private static void stays(String program, int state, int bad) {
+        House house = House.taken(program);
+        if (state > 0) {
+            house.it.run(state == 1 ? 50000 : 6);
+        }
+        long[] ahead = all(house.it);
+        House.due("judge of " + BAD[bad], house.judge(BAD[bad]), KIND[bad]);
+        House.due("all stays behind " + BAD[bad], Arrays.equals(all(house.it), ahead) ? 1 : 0, 1);
+        // And it runs as it did.
+        if (state > 0) {
+            house.it.run(state == 1 ? 50000 : 6);
+            House.due("it runs again", Arrays.equals(all(house.it), ahead) ? 1 : 0, 1);
+        }
+    }
+
+    /** The program runs anew: nothing is left of the run ahead. */
+    private static void anew() {
+        House house = House.taken("record T told { n: int } fn main() { let a = new T { n: 1 }; let b = box(row int [read]); print 5; if b^[0] == 1 { fail; } "
+            + "while b^[0] == 2 { } }");
+        int[] ends = {0, 1, 2, 0};
+        int[] reads = {0, 1, 2, 0};
+        for (int turn = 0; turn < 4; turn++) {
+            House next = House.taken("record T told { n: int } fn main() { let a = new T { n: 1 }; let b = box(row int [read]); print 5; if b^[0] == 1 { fail; } "
+                + "while b^[0] == 2 { } }");
+            next.it.give(reads[turn]);
+            for (int again = 0; again < 3; again++) {
+                House.due("run", next.it.run(50000), ends[turn]);
+                House.due("out", next.it.about(4), ends[turn] == 2 ? 1 : 2);
+                House.due("first", next.it.out(0, 1), 5);
+                House.due("made", next.it.about(5), 1);
+                House.due("dropped", next.it.about(6), ends[turn] == 2 ? 0 : 1);
+                House.due("boxes", next.it.about(7), 1);
+                House.due("rows", next.it.about(8), 1);
+                House.due("reads", next.it.about(9), 1);
+                House.due("STEPS", next.it.about(3), ends[turn] == 2 ? 50000 : ends[turn] == 1 ? 5 : 6);
+                House.due("lefts", next.it.lefts(), 0);
+            }
+        }
+        House.due("run", house.it.run(3), 2);
+        House.due("out", house.it.about(4), 1);
+        House.due("run", house.it.run(2), 2);
+        House.due("out", house.it.about(4), 0);
+        House.due("no out", house.it.out(0, 1), 0);
+        House.due("run", house.it.run(1), 2);
+        House.due("boxes", house.it.about(7), 0);
+        House.due("rows", house.it.about(8), 0);
+        House.due("reads", house.it.about(9), 0);
+    }
+}
