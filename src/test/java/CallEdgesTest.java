@@ -26,6 +26,8 @@ public final class CallEdgesTest {
         asked();
         notRun();
         stays();
+        staysLater();
+        tokens();
         anew();
         House.end("CallEdgesTest");
     }
@@ -375,6 +377,66 @@ public final class CallEdgesTest {
         if (state > 0) {
             house.it.run(state == 1 ? 50000 : 6);
             House.due("it runs again", Arrays.equals(all(house.it), ahead) ? 1 : 0, 1);
+        }
+    }
+
+    /** Also behind more programs than one; and what a text with a FAULT was like says nothing of the next text. */
+    private static void staysLater() {
+        for (int goods = 2; goods <= 5; goods++) {
+            House house = House.taken("fn main() { print 0; }");
+            for (int i = 2; i < goods; i++) {
+                House.due("judge", house.judge("record R { a: int } fn main() { let a = new R { a: " + i + " }; print a.a; }"), 0);
+                House.due("run", house.it.run(10), 0);
+            }
+            House.due("judge", house.judge(GOOD), 0);
+            House.due("run", house.it.run(100), 0);
+            long[] ahead = all(house.it);
+            for (int i = 3; i < 6; i += 2) {
+                House.due("judge", house.judge("record R { a: int } fn f(a: int) { let b = & a; } fn g(a: R) { let c = a; let d = & c.a; print d^ + " + i + "; } " + BAD[i] + " fn main("), 1);
+                House.due("judge", house.judge("record R { a: int } fn f(a: int) { let b = & a; print q; } fn g(a: R) { let c = a; let d = & c.a; print d^ + " + i + "; }"), 2);
+                House.due("judge", house.judge("record R { a: int } fn f(a: int) { let b = & a; } fn g(a: R) { let c = a; let d = & c.a; let e: int; print e; } fn main() { }"), 3);
+            }
+            House.due("all stays behind " + goods, Arrays.equals(all(house.it), ahead) ? 1 : 0, 1);
+        }
+        // What was open at a FAULT is open no more: sixteen can be again.
+        House house = new House();
+        for (int i = 0; i < 3; i++) {
+            House.due("judge", house.judge("fn main() { print " + "(".repeat(15) + "]"), 1);
+            House.due("place", house.it.fault(1), 33);
+            House.due("judge", house.judge("fn main() { print " + "(".repeat(16) + "1"), 1);
+            House.due("place", house.it.fault(1), 33);
+            House.due("judge", house.judge("fn main() { print " + "(".repeat(15) + "1" + ")".repeat(15) + "; }"), 0);
+        }
+        // In each text what is behind the last way of the text ahead, and what it has held, is unknown.
+        house = new House();
+        for (int i = 0; i < 3; i++) {
+            House.due("judge", house.judge("fn main() { let a = 1; let r = & a; while read == 1 { print r^; } let b: int; print b; }"), 3);
+            House.due("judge", house.judge("fn main() { let a = 1; let b = & a; while read == 1 { a = 2; b = & a; } print b^; }"), 0);
+            House.due("judge", house.judge("fn main() { let a: int; let b = 1; while read == 1 { a = b; } b = 2; print b; }"), 0);
+            House.due("splits", house.it.function(0, 2), 1);
+        }
+    }
+
+    /** As many tokens as there are bytes: whatever the sign, the FAULT is told and nothing else happens. */
+    private static void tokens() {
+        for (int sign = 0; sign < 256; sign++) {
+            int four = sign << 24 | sign << 16 | sign << 8 | sign;
+            LoanHouse x = new LoanHouse();
+            for (int i = 0; i < 150; i++) {
+                x.feed(four, four, four, four, four);
+            }
+            boolean blank = sign == 9 || sign == 10 || sign == 13 || sign == 32 || sign == '#';
+            House.due("judge of 3000 of byte " + sign, x.judge(3000), blank ? 2 : 1);
+            House.due("place of byte " + sign, x.fault(1), blank ? 3000 : 0);
+        }
+        for (String body : new String[] {"a^", "a.b", "a[0]", "a+", "a=", "f(", "f(),", "{", "-", "not ", "let a;", "let a:int;", "match a{", "A=>{", "A(b,", "1,",
+            "row int[", "new R{", "new R{a:", "& ", "&!", "a;", "f();", "if a{", "if a{}", "else ", "while a{}", "fail;", "return;", "_", "1+", "1<", "a and "}) {
+            for (String head : new String[] {"", "fn main(){", "fn main(){print ", "fn main(){a", "fn main(){let a=", "record R{", "record R{a:box ", "choice C{", "choice C{A(", "fn f("}) {
+                String text = head + body.repeat(3000 / body.length());
+                House house = new House();
+                int kind = house.judge(text.substring(0, Math.min(text.length(), 3000)));
+                House.due("FAULT of many " + head + body, kind == 1 || kind == 2 ? 1 : 0, 1);
+            }
         }
     }
 

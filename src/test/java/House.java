@@ -4,6 +4,7 @@ final class House {
     private static int asked = 0;
 
     final LoanHouse it = new LoanHouse();
+    int given;
 
     /** Feeds the text, filled up with blanks, and judges just it. */
     int judge(String text) {

@@ -17,6 +17,8 @@ public final class LoanEdgesTest {
         atEnds();
         probes();
         waiting();
+        apart();
+        turns();
         lastUses();
         given();
         bindsInOrder();
@@ -297,11 +299,71 @@ public final class LoanEdgesTest {
         due("add(& a, get(& zz));", 1);
         due("add(& a, swap(zz, 1));", 1);
         due("add(& a, get(first(& b, & zz)));", 2);
+        // Whatever is worked out between the two.
+        for (String exp : new String[] {"1", "read", "1 + 2", "1 + 2 + 3 * read", "- 1", "- read + 1", "b", "q.x", "get(& b)", "len(w)", "w[0]", "w[w[0]]",
+            "w[1 + read]", "pop(w)", "swap(b, 2)", "swap(w[0], 3 + 4)", "swap(w[w[1]], w[0])", "open(box(5))", "get(both(& b, & b))"}) {
+            due("let w = row int [0, 1]; mid(& a, " + exp + ", zz);", 1);
+            due("let w = row int [0, 1]; mid(& a, 0 * (" + exp + ") + 1, zz);", 1);
+            due("let w = row int [0, 1]; print " + exp + "; print zz;", 0);
+            due("let w = row int [0, 1]; w[0] = " + exp + "; push(w, " + exp.replace("pop(w)", "1") + "); b = zz;", 0);
+            due("let w = row int [0, 1]; let r = rest(" + exp + ", & a); b = zz; print r^;", 1);
+        }
+        for (String exp : new String[] {"y()", "true", "not y()", "y() and y()", "y() or y() or y()", "1 < 2", "y() == true", "y() and 1 == 2 or y()"}) {
+            due("test(& a, " + exp + ", zz);", 1);
+            due("if " + exp + " { } b = zz;", 0);
+            due("let r = that(& a, " + exp + "); b = zz; print r^;", 1);
+        }
+        for (String exp : new String[] {"new S { a: p(), b: box(p()), c: row P [p(), p()] }", "new S { c: row P [], b: box(q), a: p() }", "s()", "swap(o, s())"}) {
+            due("let o = s(); wide(& a, " + exp + ", zz);", 1);
+        }
+        due("made(& a, new C.V, zz);", 1);
+        due("made(& a, new C.W(1, 2 + b), zz);", 1);
+        // What a statement gives is held no longer.
+        due("first(& a, & b); b = zz;", 0);
+        due("sole(&! a, & b); b = zz;", 0);
+        due("match & c { _ => { } } b = zz;", 0);
+    }
+
+    /** What is returned is not there behind the return, nor is what another fn has held. */
+    private static void apart() {
+        LoanHouse x = House.taken("fn y() -> bool { return true; } fn f(p: &! int, zz: int) -> & int of p { if y() { return & p^; } print zz; return & p^; } fn main() { }").it;
+        House.due("place of zz", x.place(1, 1), 0);
+        House.due("behind a return", x.place(1, 3), 0);
+        x = House.taken("fn f() { let a = 1; let r = & a; print r^; } fn main() { let p = 1; let q = 2; let s = & p; print q; print q; print s^; print q; }").it;
+        int[] due = {0, 0, 0, 1, 1, 0, 0};
+        for (int k = 0; k < due.length; k++) {
+            House.due("LOANS at place " + k, x.place(k, 3), due[k]);
+        }
+        x = House.taken("fn f() { let a = 1; let r = & a; print r^; } fn g(p: int, q: int) { let s = & p; print q; print q; } fn main() { }").it;
+        for (int k = 2; k < 5; k++) {
+            House.due("LOANS at place " + k, x.place(k, 3), 0);
+        }
+        // The first variable of the text is as all others.
+        House.due("no LOAN", House.taken("fn f(a: & int) { let b = & a^; } fn main() { }").it.function(0, 3), 0);
+        House.runs("choice C { W(int) } fn main() { match new C.W(1) { W(a) => { print a; } } }", 0, "1");
+        House.runs("fn main() { let a = box(3); let b = & a^; print b^; }", 0, "3");
+    }
+
+    /** What a variable holds goes on from turn to turn, as far as it can. */
+    private static void turns() {
+        probe("let u = & a; let v = & a; let w = & a; let z = & a; while y() { # print z^; z = w; w = v; v = u; u = & b; }", 5);
+        probe("let u = & a; let v = & a; let w = & a; let z = & a; while y() { z = w; w = v; v = u; u = & b; # print z^; }", 4);
+        probe("let v = & a; let w = & a; let z = & a; while y() { while y() { # print z^; z = w; } w = v; v = & b; }", 4);
+        probe("let u = & a; let v = & a; while y() { if y() { # print v^; } if y() { v = u; } else { u = & b; } }", 3);
+        wrong("let a = 0; let m = 1; let u = & a; let v = & a; let w = & a; let z = & a; while y() { print z^; z = w; w = v; v = u; u = $& m; @m = 2; }");
+        wrong("let a = 0; let m = 1; let v = & a; let w = & a; let z = & a; while y() { @m = 2; print z^; z = w; w = v; v = $& m; }");
+        // So do params, to a return.
+        House.faultAt(4, SOME + "fn main() { } fn f($a: & int, b: & int, c: & int, d: & int) -> & int of b, c, d { while y() { d = c; c = b; b = a; } @return d; }");
+        // And what is moved, to an act ahead.
+        House.faultAt(3, SOME + "fn e(p: box int) { } fn main() { let a = box(1); let b = box(2); let c = box(3); while y() { e(@$c); if y() { c = b; b = a; return; } "
+            + "e(b); e(a); a = box(1); b = box(2); } }");
     }
 
     /** As many LOANS in force at the act of zz. */
     private static void due(String body, int due) {
-        String text = main("let a = 1; let b = 2; let q = p(); let c = new C.W(1, 2); let zz = 0; " + body);
+        String more = "fn mid(a: & int, b: int, c: int) { } fn rest(b: int, a: & int) -> & int of a { return a; } fn test(a: & int, b: bool, c: int) { } "
+            + "fn that(a: & int, b: bool) -> & int of a { return a; } fn wide(a: & int, b: S, c: int) { } fn made(a: & int, b: C, c: int) { } ";
+        String text = more + main("let a = 1; let b = 2; let q = p(); let c = new C.W(1, 2); let zz = 0; " + body);
         LoanHouse x = House.taken(text).it;
         int place = text.lastIndexOf("zz");
         int seen = 0;

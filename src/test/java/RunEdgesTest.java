@@ -30,6 +30,8 @@ public final class RunEdgesTest {
         givenAnew();
         statements();
         unnamed();
+        wide();
+        deepCalls();
         cut();
         House.end("RunEdgesTest");
     }
@@ -619,6 +621,68 @@ public final class RunEdgesTest {
             "5 7 8 !1 !2");
         // The match's own value is gone, though not a part is named.
         ran("let c = " + c + "; match c { _ => { print 0; } } c = new C.V; print 3;", "!1 !2 0 3");
+    }
+
+    private static final String WIDE = "record W told { a: int, b: int, c: int, d: int, e: int, f: int, g: int, h: int } fn w(n: int) -> W { return new W { a: n, "
+        + "b: n + 1, c: n + 2, d: n + 3, e: n + 4, f: n + 5, g: n + 6, h: n + 7 }; } fn all(w: & W) -> int { return (w^.a * 1000 + w^.b * 100 + w^.c * 10 + w^.d) * 10000 "
+        + "+ w^.e * 1000 + w^.f * 100 + w^.g * 10 + w^.h; } ";
+
+    /** Values of eight cells, the most there can be, are whole wherever they go. */
+    private static void wide() {
+        String whole = "12345678";
+        House.runs(WIDE + "fn main() { let a = w(1); print all(& a); let b = a; print all(& b); let c = box(b); print all(& c^); let d = open(c); print all(& d); "
+            + "let r = row W [w(3), d, w(5)]; print all(& r[1]); print all(& r[0]); print all(& r[2]); }", 0,
+            whole + " " + whole + " " + whole + " " + whole + " " + whole + " 34567900 56790122 !3 !1 !5");
+        // A swap, also behind a reference, in a box and in a row.
+        House.runs(WIDE + "fn main() { let a = w(1); let b = swap(a, w(2)); print all(& a); print all(& b); }", 0, "23456789 " + whole + " !1 !2");
+        House.runs(WIDE + "fn main() { let a = w(1); let k = &! a; let b = swap(k^, w(2)); print all(& a); print all(& b); }", 0, "23456789 " + whole + " !1 !2");
+        House.runs(WIDE + "fn main() { let a = row W [w(2), w(1), w(2)]; let b = swap(a[1], w(3)); print all(& a[0]); print all(& a[1]); print all(& a[2]); print all(& b); }", 0,
+            "23456789 34567900 23456789 " + whole + " !1 !2 !3 !2");
+        // Boxes side by side, one made anew between others.
+        House.runs(WIDE + "fn main() { let a = box(w(1)); let b = box(w(2)); a = box(w(1)); let c = box(w(2)); print all(& a^); print all(& b^); print all(& c^); "
+            + "let d = open(a); let e = box(d); print all(& e^); print all(& b^); print all(& c^); }", 0,
+            "!1 " + whole + " 23456789 23456789 " + whole + " 23456789 23456789 !1 !2 !2");
+        // Full rows side by side.
+        String fill = "fn fill(r: &! row W, n: int) { while len(r^) < 32 { push(r^, w(n)); } } ";
+        House house = House.taken(WIDE + fill + "fn main() { let a = row W []; let b = row W []; let c = row W []; fill(&! a, 1); fill(&! c, 3); fill(&! b, 2); "
+            + "print all(& a[0]) - 12345678; print all(& a[31]) - 12345678; print all(& b[0]) - 23456789; print all(& b[31]) - 23456789; print all(& c[0]) - 34567900; "
+            + "print all(& c[31]) - 34567900; print len(a) + len(b) + len(c); }");
+        House.due("run", house.it.run(50000), 0);
+        for (int i = 0; i < 6; i++) {
+            House.due("element " + i, house.it.out(i, 1), 0);
+        }
+        House.due("elements", house.it.out(6, 1), 96);
+        House.due("dropped", house.it.about(6), 96);
+        // Parts of a choice, and params and results between others.
+        House.runs(WIDE.replace(", h: int", "").replace(", h: n + 7", "").replace(" + w^.h", "") + "choice K { A, B(W) } fn f(i: int, k: K, j: int) -> K { match & k { "
+            + "B(w) => { print all(w) + i + j; } _ => { } } return k; } fn main() { let k = f(1, new K.B(w(1)), 2); match k { B(w) => { print all(& w); } _ => { } } }", 0,
+            "12345673 12345670 !1");
+    }
+
+    /** Calls that are open have room for all their variables and values, each its own. */
+    private static void deepCalls() {
+        StringBuilder lets = new StringBuilder();
+        for (int i = 0; i < 36; i++) {
+            lets.append("let v").append(i).append(": W; ");
+        }
+        String text = WIDE + "fn f(n: int) -> int { " + lets + "if n > 0 { let m = f(n - 1); return m + n; } return 0; } fn main() { print f(#); }";
+        for (int deep = 0; deep <= 38; deep++) {
+            House.runs(text.replace("#", "" + deep), 0, "" + deep * (deep + 1) / 2);
+        }
+        String row = "fn f(n: int) -> int { if n == 0 { return 0; } let r = row int [" + "n, ".repeat(31) + "f(n - 1)]; return r[0] + r[30] + r[31]; } fn main() { print f(#); }";
+        for (int deep = 0; deep <= 38; deep++) {
+            House.runs(row.replace("#", "" + deep), 0, "" + deep * (deep + 1));
+        }
+        // What a caller has is no value of the one it calls.
+        String call = "fn g(x: int) { let a: T; let b: T; if x == 5 { a = t(5); b = t(6); } let c: P; if x == 6 { c.a = t(7); } } ";
+        House.runs(SOME + call + "fn main() { let a = t(1); let b = t(2); let c = new P { a: t(3), b: t(4) }; g(0); g(5); print 0; g(6); }", 0, "!6 !5 0 !7 !3 !4 !2 !1");
+        House.runs(SOME + call + "fn main() { let a = t(1); let b = t(2); let c = new P { a: t(3), b: t(4) }; g(1); fail; }", 1, "!3 !4 !2 !1");
+        // Nor is what was used up: behind an open, a push, a pop, a swap, a match, a test.
+        failed(main("let b = box(t(1)); let a = open(b); @fail;"), 1, "!1");
+        failed(main("let b = box(box(t(1))); let a = open(open(b)); two(a, t(1 @/ 0));"), 2, "!1");
+        failed(main("let r = row T [t(1)]; let a = pop(r); push(r, a); swap(r[0], t(2)); @fail;"), 1, "!1 !2");
+        failed(main("if y() and y() or y() { while y() { match new C.W(t(1), 2, t(3)) { W(a, _, _) => { @fail; } _ => { } } } }"), 1, "!3 !1");
+        failed(main("let a = t(1); let p = new P { a: a, b: t(2) }; let q = new C.W(p.a, 1, p.b); let r = row C [q]; @fail;"), 1, "!1 !2");
     }
 
     /** CUT at once: nothing is dropped, nothing is left. */

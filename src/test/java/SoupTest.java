@@ -1,6 +1,9 @@
 import java.util.Random;
 
-/** Texts with random changes: whatever they are, no call throws, places lie in the text, and runs leave nothing. */
+/**
+ * Texts with random changes: whatever they are, no call throws, places lie in the text, runs leave nothing, and an object
+ * that has judged and run others answers as a new one.
+ */
 public final class SoupTest {
     private static final String[] TEXTS = {
         "choice L { E, C(box N) } record N { v: int, next: L } fn sum(l: & L) -> int { match l { E => { return 0; } C(b) => { return b^^.v + "
@@ -23,7 +26,8 @@ public final class SoupTest {
         for (int i = 0; i < 6000; i++) {
             if (i % 3 == 0) {
                 house = new House();
-                house.it.give(i / 3);
+                house.given = i / 3;
+                house.it.give(house.given);
             }
             soup(house, changed(random, TEXTS[i % TEXTS.length]), random);
         }
@@ -59,10 +63,17 @@ public final class SoupTest {
         House.due("a FAULT of " + text, kind >= 0 && kind <= 4 ? 1 : 0, 1);
         House.due("a place of " + text, kind == 0 ? place == -1 ? 1 : 0 : place >= 0 && place <= text.length() ? 1 : 0, 1);
         House.due("another place of " + text, house.it.fault(2) >= 0 ? 1 : 0, kind >= 3 ? 1 : 0);
+        House fresh = new House();
+        House.due("a new one's FAULT of " + text, fresh.judge(text), kind);
+        House.due("a new one's place of " + text, fresh.it.fault(1), place);
+        House.due("a new one's other place of " + text, fresh.it.fault(2), house.it.fault(2));
         if (kind != 0) {
             return;
         }
-        House.due("run of " + text, house.it.run(1 + random.nextInt(500)) >= 0 ? 1 : 0, 1);
+        int steps = 1 + random.nextInt(500);
+        fresh.it.give(house.given);
+        House.due("run of " + text, house.it.run(steps), fresh.it.run(steps));
+        alike(house.it, fresh.it, text);
         House.due("strays of " + text, house.it.strays(), 0);
         House.due("twices of " + text, house.it.twices(), 0);
         House.due("lefts of " + text, house.it.lefts(), 0);
@@ -73,6 +84,25 @@ public final class SoupTest {
                 force += house.it.force(loan, k);
             }
             House.due("force at " + k + " of " + text, house.it.place(k, 3), force);
+        }
+    }
+
+    /** What an object that has judged others answers, and a new one. */
+    private static void alike(LoanHouse x, LoanHouse fresh, String text) {
+        for (int i = 0; i < 10; i++) {
+            House.due("about " + i + " of " + text, x.about(i), fresh.about(i));
+            House.due("size " + i + " of " + text, x.size(i), fresh.size(i));
+            House.due("out " + i + " of " + text, x.out(i, 1), fresh.out(i, 1));
+            House.due("kind of out " + i + " of " + text, x.out(i, 0), fresh.out(i, 0));
+            for (int what = 0; what < 4; what++) {
+                House.due("function " + i + " of " + text, x.function(i, what), fresh.function(i, what));
+                House.due("loan " + i + " of " + text, x.loan(i, what), fresh.loan(i, what));
+            }
+        }
+        for (int k = 0; k < x.count(2); k++) {
+            House.due("place " + k + " of " + text, x.place(k, 1), fresh.place(k, 1));
+            House.due("LOANS at " + k + " of " + text, x.place(k, 3), fresh.place(k, 3));
+            House.due("way to " + k + " of " + text, x.place(k, 4), fresh.place(k, 4));
         }
     }
 }

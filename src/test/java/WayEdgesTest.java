@@ -29,6 +29,7 @@ public final class WayEdgesTest {
         bare();
         others();
         unreached();
+        many();
         splits();
         ends();
         House.end("WayEdgesTest");
@@ -258,6 +259,13 @@ public final class WayEdgesTest {
         wrong("let a: T; if y() { a = t(); e($a); } else { a = t(); } print @a.n;");
         wrong("let a = t(); while y() { if y() { e($a); } else { e(a); } break; } print @a.n;");
         wrong("let a = t(); while y() { a = t(); while y() { e($a); break; } if y() { return; } } print @a.n;");
+        // A let or a bind of the next turn gives it, so no way leads on from the turn before.
+        wrong("while y() { let a = t(); if y() { e(a); continue; } e($a); print @a.n; }");
+        wrong("while y() { match new C.W(t()) { W(a) => { if y() { e(a); continue; } e($a); print @a.n; } _ => { } } }");
+        wrong("while y() { let a: T; a = t(); if y() { e(a); continue; } e($a); print @a.n; }");
+        // From a turn that is never left to the act no way leads there.
+        wrong("let a = t(); let k = 0; if y() { e(a); while k < 3 { k = k + 1; } return; } e($a); print @a.n;");
+        wrong("let a = t(); let k = 0; if y() { e(a); while k < 3 { k = k + 1; a = t(); e(a); } fail; } e($a); print @a.n;");
         // The act itself can be the move, in the turn before.
         wrong("let a = t(); while y() { e(@$a); }");
         wrong("let a = t(); while y() { print @a.n; e($a); }");
@@ -339,6 +347,28 @@ public final class WayEdgesTest {
         // What no way comes to gives nothing, either.
         wrong("let a = t(); e($a); while y() { if y() { break; a = t(); } } print @a.n;");
         taken("let a = t(); while y() { if y() { break; e(a); } } print a.n;");
+    }
+
+    /** Each fn has LEAVES of its own, however many there are ahead of it in the text. */
+    private static void many() {
+        StringBuilder head = new StringBuilder(SOME);
+        for (int f = 0; f < 4; f++) {
+            head.append("fn m").append(f).append("() { ");
+            for (int i = 0; i < 15; i++) {
+                head.append("let v").append(i).append(": Q; ");
+            }
+            head.append("} ");
+        }
+        for (int ahead = 0; ahead < 5; ahead++) {
+            String body = "let z: E; ".repeat(ahead) + "let q = k(); ";
+            for (int leaf = 0; leaf < 3; leaf++) {
+                House.faultAt(3, head + "fn main() { " + body + MOVES[leaf] + "let w = @q; }");
+                House.faultAt(3, head + "fn main() { " + body.replace("q = k()", "$q: Q") + GIVES[leaf] + "let w = @q; }");
+                String text = head + "fn main() { " + body + "if y() { " + MOVES[leaf].replace("$", "") + "} }";
+                House.due("splits of " + text, House.taken(text).it.function(16, 2), 1);
+                House.runs(text, 0, "!1 !1");
+            }
+        }
     }
 
     /** LEAVES that at some END (which a way comes to) are held on some ways and not on others. */
