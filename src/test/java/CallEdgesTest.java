@@ -27,6 +27,7 @@ public final class CallEdgesTest {
         notRun();
         stays();
         staysLater();
+        textAfterText();
         tokens();
         anew();
         House.end("CallEdgesTest");
@@ -407,13 +408,67 @@ public final class CallEdgesTest {
             House.due("place", house.it.fault(1), 33);
             House.due("judge", house.judge("fn main() { print " + "(".repeat(15) + "1" + ")".repeat(15) + "; }"), 0);
         }
-        // In each text what is behind the last way of the text ahead, and what it has held, is unknown.
+        // In each text what is used behind a place, and what is held there, is the text's own.
+        house = new House();
+        for (int i = 0; i < 3; i++) {
+            String text = "fn main() { let a = 1; let r = & a; while read == 1 { # } }";
+            House.due("judge", house.judge(text.replace("#", "print r^;")), 0);
+            House.due("force", house.it.force(0, 1), 1);
+            House.due("judge", house.judge(text.replace("#", "a = 2;")), 0);
+            House.due("force", house.it.force(0, 1), 0);
+            House.due("judge", house.judge(text.replace("#", "a = 2; print r^;")), 4);
+            House.due("judge", house.judge(text.replace("#", "print a;")), 0);
+            House.due("force", house.it.force(0, 1), 0);
+        }
         house = new House();
         for (int i = 0; i < 3; i++) {
             House.due("judge", house.judge("fn main() { let a = 1; let r = & a; while read == 1 { print r^; } let b: int; print b; }"), 3);
             House.due("judge", house.judge("fn main() { let a = 1; let b = & a; while read == 1 { a = 2; b = & a; } print b^; }"), 0);
             House.due("judge", house.judge("fn main() { let a: int; let b = 1; while read == 1 { a = b; } b = 2; print b; }"), 0);
             House.due("splits", house.it.function(0, 2), 1);
+        }
+    }
+
+    /** Text after text in one object, each with much of all: the last one is judged and run as the first one. */
+    private static void textAfterText() {
+        StringBuilder binds = new StringBuilder();
+        StringBuilder types = new StringBuilder();
+        for (char name = 'A'; name <= 'F'; name++) {
+            binds.append(name).append("(a,b,c,d,e,f)=>{}");
+            types.append(name == 'A' ? "" : ",").append(name).append("(int,int,int,int,int,int)");
+        }
+        StringBuilder fns = new StringBuilder();
+        for (int f = 0; f < 9; f++) {
+            fns.append("fn f").append(f).append("(c:C){match c{").append(binds).append("}}");
+        }
+        afterText("choice C{" + types + "}" + fns + "fn main(){let k=new C.F(1,2,3,4,5,6);f0(k);print 36;}", 1);
+        StringBuilder choices = new StringBuilder();
+        for (int i = 0; i < 23; i++) {
+            choices.append("choice C").append(i).append("{a(int),b,c,d,e,f,g,h,i,j}");
+        }
+        afterText(choices + "record R{a:int,b:int}fn main(){let r=new R{b:5,a:30};match new C22.a(r.b+1){a(k)=>{print k+r.a;}_=>{}}}", 2);
+        StringBuilder lets = new StringBuilder();
+        for (int i = 0; i < 38; i++) {
+            lets.append("let a=1;");
+        }
+        StringBuilder steps = new StringBuilder();
+        for (int i = 0; i < 40; i++) {
+            steps.append("if p.p.a<0{p.p.b=9;}");
+        }
+        afterText("record R{a:int,b:int}record S{p:R}fn f(){" + lets + "}fn main(){" + "let p=new S{p:new R{b:6,a:30}};" + steps + "print p.p.a+p.p.b;}", 1);
+    }
+
+    private static void afterText(String text, int variables) {
+        House house = new House();
+        int calls = (text.length() + 19) / 20 + 8;
+        for (int turn = 0; turn < 512 / calls; turn++) {
+            House.due("judge of " + text, house.judge(text), 0);
+            int last = house.it.count(1) - 1;
+            House.due("variables of main", house.it.function(last, 0), variables);
+            House.due("run", house.it.run(1000), 0);
+            House.due("out", house.it.out(0, 1), 36);
+            House.due("entries", house.it.about(4), 1);
+            House.due("lefts", house.it.lefts(), 0);
         }
     }
 
