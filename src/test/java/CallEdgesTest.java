@@ -27,6 +27,7 @@ public final class CallEdgesTest {
         notRun();
         stays();
         staysLater();
+        nothingLeft();
         textAfterText();
         tokens();
         anew();
@@ -429,47 +430,109 @@ public final class CallEdgesTest {
         }
     }
 
-    /** Text after text in one object, each with much of all: the last one is judged and run as the first one. */
-    private static void textAfterText() {
-        StringBuilder binds = new StringBuilder();
-        StringBuilder types = new StringBuilder();
-        for (char name = 'A'; name <= 'F'; name++) {
-            binds.append(name).append("(a,b,c,d,e,f)=>{}");
-            types.append(name == 'A' ? "" : ",").append(name).append("(int,int,int,int,int,int)");
+    /** Nothing of the texts ahead is left in what a text is: each is judged behind two others, and behind two more of its like. */
+    private static void nothingLeft() {
+        // What has an else, a result, an of, parts, and then has none.
+        after("fn main() { if false { } else { print 1; } print 2; }", "fn main() { if false { } if true { print 3; } print 2; }", 0, "3 2");
+        after("fn f() -> int { return 1; } fn main() { let a = 7; print a + f(); }",
+            "fn f() { } fn main() { let a = 7; let b = 8; f(); print a; print b; f(); print a; print b; }", 0, "7 8 7 8");
+        after("fn f(a: & int) -> & int of a { return a; } fn main() { let a = 1; let r = f(& a); print r^; }",
+            "fn f(a: & int) -> & int { fail; } fn main() { let a = 1; let r = f(& a); a = 2; print r^; }", 1, "");
+        after("choice C { A(int, int) } fn main() { let c = new C.A(1, 2); }", "choice C { A } fn main() { match new C.A { A => { print 3; } } }", 0, "3");
+        after("record R told { a: int } fn main() { let a = new R { a: 1 }; }", "record R { a: int } fn main() { let a = new R { a: 1 }; print a.a; }", 0, "1");
+        after("record R { a: int, b: int } fn main() { }", "record R { } fn main() { let a = new R { }; let b = a; print 4; }", 0, "4");
+        after("fn f(a: int, b: int) { } fn main() { f(1, 2); }", "fn f() { print 5; } fn main() { f(); }", 0, "5");
+        after("fn main() { while true { break; } }", "fn main() { if true { print 6; } }", 0, "6");
+        // What was lent of a variable, and where a way came to.
+        after("fn main() { let a = 1; let r = &! a; let s = & r^; print s^; }",
+            "fn main() { let a = 1; let r = & a; let s = & a; r = & a; print s^ + r^; }", 0, "2");
+        House house = new House();
+        for (int i = 0; i < 3; i++) {
+            House.due("judge", house.judge("fn main() { let a = 1; let r = & a; print a; print a; print r^; }"), 0);
+            House.due("way", house.it.place(1, 4), 1);
+            House.due("LOANS", house.it.place(1, 3), 1);
+            House.due("judge", house.judge("fn main() { let a = 1; let r = & a; return; print a; print r^; print r^; }"), 0);
+            for (int k = 1; k < 4; k++) {
+                House.due("way", house.it.place(k, 4), 0);
+                House.due("LOANS", house.it.place(k, 3), 0);
+            }
+            House.due("judge", house.judge("fn main() { let a = 1; let r = &! a; let s = & r^; print s^; }"), 0);
+            House.due("judge", house.judge("fn main() { let a = 1; let r = &! a; let s = & r^; print s^; }"), 0);
+            House.due("judge", house.judge("fn main() { let a = 1; let r = & a; let s = & a; r = & a; print a; print s^ + r^; }"), 0);
+            House.due("LOANS", house.it.place(4, 3), 2);
         }
-        StringBuilder fns = new StringBuilder();
-        for (int f = 0; f < 9; f++) {
-            fns.append("fn f").append(f).append("(c:C){match c{").append(binds).append("}}");
-        }
-        afterText("choice C{" + types + "}" + fns + "fn main(){let k=new C.F(1,2,3,4,5,6);f0(k);print 36;}", 1);
-        StringBuilder choices = new StringBuilder();
-        for (int i = 0; i < 23; i++) {
-            choices.append("choice C").append(i).append("{a(int),b,c,d,e,f,g,h,i,j}");
-        }
-        afterText(choices + "record R{a:int,b:int}fn main(){let r=new R{b:5,a:30};match new C22.a(r.b+1){a(k)=>{print k+r.a;}_=>{}}}", 2);
-        StringBuilder lets = new StringBuilder();
-        for (int i = 0; i < 38; i++) {
-            lets.append("let a=1;");
-        }
-        StringBuilder steps = new StringBuilder();
-        for (int i = 0; i < 40; i++) {
-            steps.append("if p.p.a<0{p.p.b=9;}");
-        }
-        afterText("record R{a:int,b:int}record S{p:R}fn f(){" + lets + "}fn main(){" + "let p=new S{p:new R{b:6,a:30}};" + steps + "print p.p.a+p.p.b;}", 1);
     }
 
-    private static void afterText(String text, int variables) {
+    private static void after(String ahead, String text, int ended, String out) {
         House house = new House();
-        int calls = (text.length() + 19) / 20 + 8;
-        for (int turn = 0; turn < 512 / calls; turn++) {
+        for (int i = 0; i < 3; i++) {
+            House.due("judge of " + ahead, house.judge(ahead), 0);
+            House.due("judge of " + ahead, house.judge(ahead), 0);
             House.due("judge of " + text, house.judge(text), 0);
-            int last = house.it.count(1) - 1;
-            House.due("variables of main", house.it.function(last, 0), variables);
-            House.due("run", house.it.run(1000), 0);
-            House.due("out", house.it.out(0, 1), 36);
-            House.due("entries", house.it.about(4), 1);
-            House.due("lefts", house.it.lefts(), 0);
+            house.runsAgain(text, ended, out);
+            House.due("judge of " + text, house.judge(text), 0);
+            house.runsAgain(text, ended, out);
         }
+    }
+
+    private static String each(String part, int from, int to) {
+        StringBuilder all = new StringBuilder();
+        for (int i = from; i < to; i++) {
+            all.append(part.replace("#", "" + i));
+        }
+        return all.toString();
+    }
+
+    /** Text after text in one object, each with much of something: the last one is judged and run as the first one. */
+    private static void textAfterText() {
+        // Variables, variants' types, variants.
+        String arms = each("V#(a,b,c,d,e,f)=>{}", 0, 6);
+        afterText("choice C{" + each("V#(int,int,int,int,int,int),", 0, 5) + "V5(int,int,int,int,int,int)}" + each("fn f#(c:C){match c{" + arms + "}}", 0, 9)
+            + "fn main(){let k=new C.V5(1,2,3,4,5,6);f0(k);print 36;$}");
+        String six = "(E,E,E,E,E,E)";
+        afterText("record E{}" + each("choice C#{a" + six + ",b" + six + ",c" + six + ",d" + six + ",e" + six + ",f" + six + ",g" + six + ",h" + six + ",i" + six + ",j(int)}",
+            0, 9) + "fn main(){match new C8.j(30){j(a)=>{print a+6;}_=>{}}$}");
+        afterText(each("choice C#{a(int),b,c,d,e,f,g,h,i,j}", 0, 23)
+            + "record R{a:int,b:int}fn main(){let r=new R{b:5,a:30};match new C22.a(r.b+1){a(k)=>{print k+r.a;}_=>{}}$}");
+        // LEAVES, steps of places, matches, what new records are made of, whiles and ifs.
+        afterText("record R{a:int,b:int}record S{p:R}fn f(){" + each("let a#:S;", 0, 29) + "}fn g(){" + each("let a#:S;", 0, 29) + "}fn h(){" + each("let a#:S;", 0, 29)
+            + "}fn main(){let p=new S{p:new R{b:6,a:30}};print p.p.a+p.p.b;$}");
+        afterText("record W{a:int,b:int,c:int,d:int,e:int,f:int,g:int,h:int}" + each("fn f#(){" + each("let a:W;", 0, 7) + "}", 0, 15)
+            + "fn main(){let w:W;w.a=30;w.h=6;print w.a+w.h;$}");
+        afterText("fn main(){let b=" + "box(".repeat(15) + "0" + ")".repeat(15) + ";" + each("b" + "^".repeat(15) + "=#;", 0, 80) + "print b" + "^".repeat(15) + "-43;$}");
+        afterText("choice C{V,W(int)}fn main(){let k=new C.W(36);let r=&k;" + each("match r{_=>{}}", 0, 100) + "match r{V=>{}W(a)=>{print a^;}}$}");
+        String deep = "p" + ".p".repeat(14) + ".a";
+        afterText("record R0{a:int}" + nested() + "fn main(){let p=m();" + each(deep + "=#;", 0, 36) + "print " + deep + "+1;$}");
+        afterText("choice C{V,W(int)}fn main(){" + each("match new C.V{_=>{}}", 0, 90) + "match new C.W(36){V=>{}W(a)=>{print a;}}$}");
+        afterText("record R{a:int,b:int,c:int}fn t(r:R)->int{return r.c;}fn main(){print 0" + each("+t(new R{c:1,b:2,a:3})", 0, 36) + ";$}");
+        afterText("fn main(){let a=0;" + each("while a<#{if a>=0{a=a+1;}}", 0, 37) + "print a;$}");
+        afterText("fn r(a:&int){}fn main(){let a=36;" + each("r(&a);", 0, 48) + "let b=&a;print b^;$}");
+    }
+
+    /** Records R1 to R14, each with the one ahead in it, and a fn that makes the last. */
+    private static String nested() {
+        StringBuilder all = new StringBuilder();
+        for (int i = 1; i <= 14; i++) {
+            all.append("record R").append(i).append("{p:R").append(i - 1).append("}");
+        }
+        return all + "fn k()->R7{return new R7{p:new R6{p:new R5{p:new R4{p:new R3{p:new R2{p:new R1{p:new R0{a:0}}}}}}}};}"
+            + "fn m()->R14{return new R14{p:new R13{p:new R12{p:new R11{p:new R10{p:new R9{p:new R8{p:k()}}}}}}};}";
+    }
+
+    /** The first and the last are taken, those between have a FAULT 3 or 4 at the $. */
+    private static void afterText(String text) {
+        String[] ends = {"let z:int;print z;", "let y=1;let z=&y;y=2;print z^;"};
+        House house = new House();
+        int calls = (text.length() + 60) / 20 + 3;
+        int turns = 500 / calls;
+        for (int turn = 0; turn < turns; turn++) {
+            boolean good = turn == 0 || turn == turns - 1;
+            House.due("judge of turn " + turn + " of " + text, house.judge(text.replace("$", good ? "" : ends[turn % 2])), good ? 0 : 3 + turn % 2);
+        }
+        House.due("run", house.it.run(5000), 0);
+        House.due("out of " + text, house.it.out(0, 1), 36);
+        House.due("entries", house.it.about(4), 1);
+        House.due("lefts", house.it.lefts() + house.it.strays() + house.it.twices(), 0);
     }
 
     /** As many tokens as there are bytes: whatever the sign, the FAULT is told and nothing else happens. */

@@ -241,6 +241,14 @@ public final class LoanEdgesTest {
         probe("let r = &! c; match &! r^ { W(l, m) => { # l^ = 2; } _ => { } }", 2);
         probe("let r = &! c; match & r^ { W(l, _) => { # print l^; } _ => { } } r^ = new C.V;", 2);
         probe("let r = &! c; match & r^ { W(_, _) => { # } _ => { } } r^ = new C.V;", 1);
+        // Of a match within an arm it is that one's own, and behind it the outer one's again.
+        probe("let o = new C.V; match & c { V => { match & o { W(l, m) => { # print l^; } _ => { } } } W(l, m) => { print l^; } }", 1);
+        probe("let o = new C.V; match & c { V => { match o { W(l, m) => { print l; } _ => { } } } W(l, m) => { # print l^; } }", 1);
+        probe("let o = new C.V; match o { V => { match & c { W(l, m) => { print l^; } _ => { } } } W(l, m) => { # print l; } }", 0);
+        wrong("let c = new C.V; let o = new C.V; match $& c { V => { match & o { _ => { } } } W(l, m) => { @c = new C.V; print l^; } }");
+        taken("let c = new C.V; let o = new C.V; match & c { V => { match & o { _ => { } } } W(l, m) => { o = new C.V; print l^; } }");
+        wrong("let c = new C.V; let o = new C.V; match & c { V => { } W(l, m) => { match $& o { V => { } W(a, b) => { @o = new C.V; print b^ + l^; } } } }");
+        wrong("let c = new C.V; let o = new C.V; match $& c { V => { } W(l, m) => { match & o { V => { } W(a, b) => { @c = new C.V; print b^ + l^; } } } }");
         // On several ways what it holds on any.
         probe("let r = & a; if y() { r = & b; } # print r^;", 2);
         probe("let r = & a; r = & b; # print r^;", 1);
